@@ -1,38 +1,82 @@
-/** What the tests share: comparing answers, expecting exceptions, typing words, telling all that can be asked. */
+/** What the tests share: comparing answers, and calls that must be refused and leave all as it was. */
 final class Check {
+    /** Calls that bring a new object somewhere; told twice, they make two objects that hold the same. */
+    interface Story {
+        void tell(Escheatry x);
+
+        default Story then(Story next) {
+            return x -> {
+                tell(x);
+                next.tell(x);
+            };
+        }
+    }
+
     interface Call {
-        void run();
+        void on(Escheatry x);
     }
 
     static final Class<? extends RuntimeException> INDEX = IndexOutOfBoundsException.class;
     static final Class<? extends RuntimeException> ARGUMENT = IllegalArgumentException.class;
     static final Class<? extends RuntimeException> STATE = IllegalStateException.class;
-    static final String[] WORDS = {"account", "cheque", "share", "box", "wage", "card"};
-    static final int ACCOUNT = 0, CHEQUE = 1, SHARE = 2, BOX = 3, WAGE = 4, CARD = 5;
 
+    private static String sentence = "";
+    private static int sentences = 0;
     private static int checked = 0;
+    private static int checkedHere = 0;
     private static int wrong = 0;
 
     private Check() {
     }
 
-    static void same(String what, Object got, Object want) {
-        checked++;
-        if (!want.equals(got)) {
-            wrong++;
-            System.out.println(what + " answered " + got + ", due is " + want);
+    /** What is checked from now on is due by this sentence. */
+    static void begin(String next) {
+        leave();
+        sentence = next;
+        sentences++;
+        checkedHere = 0;
+    }
+
+    private static void leave() {
+        if (sentences > 0 && checkedHere == 0) {
+            fail("nothing is checked of it");
         }
     }
 
-    /** The call throws just this class, by a throw statement of Escheatry itself, and changes nothing that can be asked. */
-    static void refused(String what, Class<? extends RuntimeException> want, Escheatry x, Call call) {
-        String before = all(x);
-        same(what + " throws", thrownBy(call), want.getSimpleName());
-        same("all after " + what, all(x), before);
+    static void fail(String what) {
+        wrong++;
+        System.out.println(sentence + " | " + what);
     }
 
-    /** The name of what the call throws, with a mark if the machine threw it, or "nothing". */
-    static String thrownBy(Call call) {
+    static void same(String what, Object got, Object want) {
+        checked++;
+        checkedHere++;
+        if (!want.equals(got)) {
+            fail(what + " answered " + got + ", due is " + want);
+        }
+    }
+
+    static Escheatry after(Story story) {
+        Escheatry x = new Escheatry();
+        story.tell(x);
+        return x;
+    }
+
+    /** Behind the story the call throws just this class, and whatever can be found out then is as without the call. */
+    static void refused(String what, Class<? extends RuntimeException> want, Story story, Call call) {
+        same(what + " throws", thrownBy(() -> call.on(after(story))), want.getSimpleName());
+        String[] with = Probe.all(x -> {
+            story.tell(x);
+            thrownBy(() -> call.on(x));
+        });
+        String[] without = Probe.all(story);
+        for (int i = 0; i < with.length; i++) {
+            same("behind " + what, with[i], without[i]);
+        }
+    }
+
+    /** The name of what is thrown, with a mark if another class than Escheatry threw it, or "nothing". */
+    static String thrownBy(Runnable call) {
         try {
             call.run();
             return "nothing";
@@ -43,62 +87,15 @@ final class Check {
         }
     }
 
-    static void type(Escheatry x, String word) {
-        for (int i = 0; i < word.length(); i++) {
-            x.letter(word.charAt(i));
-        }
-    }
-
-    static int tell(Escheatry x, int kind, int holder, int owner, int amount) {
-        type(x, WORDS[kind]);
-        return x.item(holder, owner, amount);
-    }
-
-    static int items(Escheatry x) {
-        return count(i -> x.due(i));
-    }
-
-    static int holders(Escheatry x) {
-        return count(h -> x.fined(h));
-    }
-
-    private interface Question {
-        int ask(int number);
-    }
-
-    private static int count(Question question) {
-        int count = 0;
-        try {
-            while (true) {
-                question.ask(count);
-                count++;
-            }
-        } catch (IndexOutOfBoundsException e) {
-            return count;
-        }
-    }
-
-    static String all(Escheatry x) {
-        StringBuilder told = new StringBuilder("year ").append(x.year()).append(" finders ").append(x.finders());
-        for (int s = 0; s < 5; s++) {
-            told.append(" purse ").append(x.purse(s)).append('/').append(x.purseAnew(s));
-        }
-        int holders = holders(x);
-        for (int h = 0; h < holders; h++) {
-            told.append(" holder ").append(x.fined(h)).append('/').append(x.audit(h, 1)).append('/').append(x.audit(h, 3));
-        }
-        int items = items(x);
-        for (int i = 0; i < items; i++) {
-            told.append(" item ").append(x.due(i)).append('/').append(x.dueAnew(i));
-            for (int what = 0; what <= 6; what++) {
-                told.append(',').append(x.about(i, what));
-            }
-        }
-        return told.toString();
+    /** Numbers that are not in the range: the nearest ones, the farthest ones, and what a wrap-around could bring in. */
+    static int[] outside(int least, int most) {
+        int[] all = {least - 1, most + 1, Integer.MIN_VALUE, Integer.MAX_VALUE, least + (1 << 8), least + (1 << 16)};
+        return java.util.Arrays.stream(all).filter(number -> number < least || number > most).toArray();
     }
 
     static void end(String test) {
-        System.out.println(test + ": " + checked + " checks, " + wrong + " wrong");
+        leave();
+        System.out.println(test + ": " + sentences + " sentences, " + checked + " checks, " + wrong + " wrong");
         if (wrong != 0 || checked == 0) {
             System.exit(1);
         }

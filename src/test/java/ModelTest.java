@@ -60,7 +60,7 @@ public final class ModelTest {
         while (made < LENGTH && wrong == 0) {
             int call = next(made);
             if (call == 3 && below(10) > 0) {
-                wrong += type(run, Check.WORDS[below(Check.WORDS.length)]);
+                wrong += type(run, Tell.WORDS[below(Tell.WORDS.length)]);
             }
             if (call == 13 && below(2) == 0) {
                 int item = model.somePaid(below(24));

@@ -1,6 +1,13 @@
 /** Promises 1 to 9: a new object, letter, holder, owner, item, law, move, death, heir. */
 public final class TellingTest {
-    private static final int MIN = Integer.MIN_VALUE, MAX = Integer.MAX_VALUE;
+    /** A holder that merged into another one, owners of whom one is dead, a word half typed. */
+    private static final Check.Story SOME = Tell.PLACE.then(x -> {
+        x.holder(4);
+        x.merge(2, 0);
+        x.owner(4);
+        x.death(2);
+        Tell.type(x, "box");
+    });
 
     public static void main(String[] args) {
         newObject();
@@ -8,304 +15,367 @@ public final class TellingTest {
         holder();
         owner();
         item();
-        itemOfNoKind();
         itemRefused();
-        laws();
-        lawRefused();
+        law();
         move();
-        moveRefused();
         death();
         heir();
+        for (int number = 1; number <= 9; number++) {
+            Doc.quotedWhole("Promise " + number);
+        }
         Check.end("TellingTest");
     }
 
     private static void newObject() {
+        Doc.promise(1, "Begins in the year 0, without holders, owners and items.");
         Escheatry x = new Escheatry();
-        Check.same("1 year", x.year(), 0);
-        Check.same("1 finders", x.finders(), 0);
+        Check.same("year", x.year(), 0);
+        Check.same("finders", x.finders(), 0);
         for (int s = 0; s < 5; s++) {
-            Check.same("1 purse", x.purse(s), 0);
-            Check.same("1 purseAnew", x.purseAnew(s), 0);
+            Check.same("purse", x.purse(s), 0);
+            Check.same("purseAnew", x.purseAnew(s), 0);
         }
-        Check.refused("1 fined(0)", Check.INDEX, x, () -> x.fined(0));
-        Check.refused("1 due(0)", Check.INDEX, x, () -> x.due(0));
-        Check.refused("1 death(0)", Check.INDEX, x, () -> x.death(0));
-        Check.same("1 first holder", x.holder(0), 0);
-        Check.same("1 first owner", x.owner(0), 0);
-        Check.same("1 no word", x.item(0, 0, 1), -1);
-        int[] sleeps = {5, 3, 4, 6, 1, 2};
-        for (int s = 0; s < 5; s++) {
-            for (int k = 0; k < 6; k++) {
-                Check.same("1 first law", x.law(s, k, sleeps[k]), sleeps[k]);
-            }
-        }
-        Check.same("1 first item", Check.tell(x, Check.BOX, 0, 0, 1), 0);
-        Escheatry y = new Escheatry();
-        Check.same("1 another object's first holder", y.holder(1), 0);
+        Check.refused("no holder", Check.INDEX, Tell.NOTHING, y -> y.fined(0));
+        Check.refused("no owner", Check.INDEX, Tell.NOTHING, y -> y.death(0));
+        Check.refused("no item", Check.INDEX, Tell.NOTHING, y -> y.due(0));
+        Check.same("years go by without any", x.pass(20), 0);
+        Check.same("nothing is typed", x.letter('b'), 1);
+        Check.same("the first holder", x.holder(4), 0);
+        Check.same("the first owner", x.owner(4), 0);
+        Tell.type(x, "ox");
+        Check.same("the first item", x.item(0, 0, 1), 0);
+        Escheatry another = new Escheatry();
+        Check.same("another object has its own years", another.year(), 0);
+        Check.same("another object has its own holders", another.holder(0), 0);
+        Check.same("another object has its own owners", another.owner(0), 0);
+        Check.same("another object has its own word and items", Tell.item(another, Tell.CARD, 0, 0, 1), 0);
     }
 
     private static void letter() {
-        Escheatry x = new Escheatry();
-        Check.same("2 a", x.letter('a'), 1);
-        Check.same("2 z", x.letter('z'), 2);
-        for (char none : new char[] {'`', '{', 'A', 'Z', ' ', (char) 0, (char) 233, (char) 65535, '@', '['}) {
-            Check.refused("2 letter " + (int) none, Check.ARGUMENT, x, () -> x.letter(none));
+        Doc.promise(2, "Adds a letter to the word that is typed.");
+        Escheatry x = Tell.place();
+        Tell.type(x, "ca");
+        x.pass(1);
+        x.contact(0, 0);
+        Tell.type(x, "rd");
+        Check.same("card, with other calls between", x.item(0, 0, 1), 0);
+        Tell.type(x, "drac");
+        Check.same("in the order typed", x.item(0, 0, 1), -1);
+
+        Doc.promise(2, "- `letter`: a to z");
+        Check.same("a", new Escheatry().letter('a'), 1);
+        Check.same("z", new Escheatry().letter('z'), 1);
+        for (char letter = 'a'; letter <= 'z'; letter++) {
+            Check.same("letter", new Escheatry().letter(letter), 1);
         }
-        for (int count = 3; count <= 7; count++) {
-            Check.same("2 count", x.letter('m'), count);
+
+        Doc.promise(2, "Returns how many it has then.");
+        Escheatry y = Tell.place();
+        for (int count = 1; count <= 7; count++) {
+            Check.same("letter", y.letter('m'), count);
         }
-        Check.refused("2 the eighth", Check.STATE, x, () -> x.letter('b'));
-        Check.refused("2 the eighth, none of these", Check.ARGUMENT, x, () -> x.letter('1'));
-        x.holder(0);
-        Check.same("2 no kind", x.item(0, -1, 1), -1);
-        Check.same("2 anew", x.letter('b'), 1);
-        Check.refused("2 no letter between", Check.ARGUMENT, x, () -> x.letter('-'));
-        x.letter('o');
-        x.letter('x');
-        Check.same("2 refused letters are not typed", x.item(0, -1, 1), 0);
-        Check.same("2 box", x.due(0), 6);
+        y.item(0, 0, 1);
+        Check.same("behind an item", y.letter('m'), 1);
+
+        Doc.promise(2, "Throws `IllegalArgumentException` if letter is none of these");
+        char[] none = {'a' - 1, 'z' + 1, 'A', 'Z', '0', ' ', '-', 0, 127, 'a' + 128, 'a' + 256, 233, 0x430, 0xff41, 0xffff};
+        for (char letter : none) {
+            Check.refused("the sign " + (int) letter, Check.ARGUMENT, Tell.NOTHING, z -> z.letter(letter));
+            Check.refused("the sign " + (int) letter + " in a word", Check.ARGUMENT, SOME, z -> z.letter(letter));
+        }
+
+        Doc.promise(2, "Throws `IllegalStateException` if it has 7");
+        Check.Story seven = Tell.PLACE.then(z -> Tell.type(z, "account"));
+        Check.refused("the eighth", Check.STATE, seven, z -> z.letter('s'));
+        Check.same("the word is as it was", Check.after(seven.then(z -> Check.thrownBy(() -> z.letter('s')))).item(0, 0, 1), 0);
+        Check.same("the seventh", Check.after(Tell.PLACE.then(z -> Tell.type(z, "accoun"))).letter('t'), 7);
     }
 
     private static void holder() {
+        Doc.promise(3, "Tells a holder.");
         Escheatry x = new Escheatry();
-        for (int none : new int[] {-1, 5, MIN, MAX}) {
-            Check.refused("3 holder", Check.INDEX, x, () -> x.holder(none));
-        }
+        x.holder(3);
+        Check.same("not fined", x.fined(0), 0);
+        Check.same("without items", x.audit(0, 1), 0);
+        Check.same("its home", x.about(Tell.item(x, Tell.BOX, 0, Tell.NONE, 1), 3), 3);
+
+        Doc.promise(3, "Returns the number.");
+        Escheatry y = new Escheatry();
         for (int number = 0; number < 6; number++) {
-            Check.same("3 holder", x.holder(number % 5), number);
+            Check.same("number", y.holder(4 - number % 5), number);
         }
-        Check.refused("3 the seventh", Check.STATE, x, () -> x.holder(0));
-        Check.refused("3 the seventh nowhere", Check.INDEX, x, () -> x.holder(5));
-        for (int number = 0; number < 6; number++) {
-            int item = Check.tell(x, Check.CARD, number, -1, 9);
-            Check.same("3 home", x.about(item, 3), number % 5);
-            Check.same("3 not fined", x.fined(number), 0);
+
+        Doc.promise(3, "Throws `IndexOutOfBoundsException` as told, of the state");
+        for (int none : Check.outside(0, 4)) {
+            Check.refused("home " + none, Check.INDEX, Tell.NOTHING, z -> z.holder(none));
         }
-        Check.same("3 merge", x.merge(0, 1), 1);
-        Check.refused("3 also one that merged counts", Check.STATE, x, () -> x.holder(0));
+
+        Doc.promise(3, "Throws `IllegalStateException` if there are 6");
+        Check.Story five = z -> {
+            for (int number = 0; number < 5; number++) {
+                z.holder(0);
+            }
+        };
+        Check.same("the sixth", Check.after(five).holder(4), 5);
+        Check.refused("the seventh", Check.STATE, five.then(z -> z.holder(0)), z -> z.holder(0));
+        Check.refused("one that merged is one of the 6", Check.STATE, five.then(z -> {
+            z.holder(0);
+            z.merge(5, 0);
+        }), z -> z.holder(0));
     }
 
     private static void owner() {
-        Escheatry x = new Escheatry();
-        for (int none : new int[] {-1, 5, MIN, MAX}) {
-            Check.refused("4 owner", Check.INDEX, x, () -> x.owner(none));
-        }
+        Doc.promise(4, "Tells an owner.");
+        Escheatry x = Tell.place();
+        Check.same("with an address", x.move(x.owner(4), 0), 4);
+        Check.same("without items", x.contact(2, 0), 0);
+        Check.same("without heirs", x.heir(2, 0), true);
+        x.death(2);
+        Check.same("who lived", Check.thrownBy(() -> x.death(2)), "IllegalStateException");
+
+        Doc.promise(4, "Returns the number.");
+        Escheatry y = new Escheatry();
         for (int number = 0; number < 8; number++) {
-            Check.same("4 owner", x.owner(number % 5), number);
+            Check.same("number", y.owner(4 - number % 5), number);
         }
-        Check.refused("4 the ninth", Check.STATE, x, () -> x.owner(0));
-        Check.refused("4 the ninth nowhere", Check.INDEX, x, () -> x.owner(-1));
-        x.death(3);
-        Check.refused("4 also a dead one counts", Check.STATE, x, () -> x.owner(0));
-        for (int number = 0; number < 8; number++) {
-            if (number != 3) {
-                Check.same("4 address", x.move(number, 4), number % 5);
+
+        Doc.promise(4, "Throws `IndexOutOfBoundsException` as told, of the state");
+        for (int none : Check.outside(0, 4)) {
+            Check.refused("address " + none, Check.INDEX, Tell.NOTHING, z -> z.owner(none));
+        }
+
+        Doc.promise(4, "Throws `IllegalStateException` if there are 8");
+        Check.Story seven = z -> {
+            for (int number = 0; number < 7; number++) {
+                z.owner(0);
             }
-        }
+        };
+        Check.same("the eighth", Check.after(seven).owner(4), 7);
+        Check.refused("the ninth", Check.STATE, seven.then(z -> z.owner(0)), z -> z.owner(0));
+        Check.refused("a dead one is one of the 8", Check.STATE, seven.then(z -> {
+            z.owner(0);
+            z.death(0);
+        }), z -> z.owner(0));
     }
 
     private static void item() {
-        Escheatry x = new Escheatry();
-        x.holder(3);
-        x.holder(4);
-        x.owner(1);
-        x.owner(2);
-        x.pass(7);
-        int[] sleeps = {5, 3, 4, 6, 1, 2};
+        Doc.promise(5, "Tells an item, of the kind whose word is typed; nothing is typed then, also if the word is no kind.");
+        Escheatry x = Tell.place();
         for (int k = 0; k < 6; k++) {
-            Check.same("5 number", Check.tell(x, k, 1, 1, 100 + k), k);
-            Check.same("5 due", x.due(k), 7 + sleeps[k]);
-            int[] about = {0, 100 + k, 7, 2, 1, 0, 0};
-            for (int what = 0; what <= 6; what++) {
-                Check.same("5 about " + what, x.about(k, what), about[what]);
+            Tell.type(x, Tell.WORDS[k]);
+            Check.same("due of " + Tell.WORDS[k], x.due(x.item(0, 0, 1)), Tell.FIRST_SLEEPS[k]);
+            Check.same("nothing is typed", x.item(0, 0, 1), -1);
+        }
+        Tell.type(x, "boxes");
+        x.item(0, 0, 1);
+        Check.same("nothing is typed also then", x.letter('b'), 1);
+        Tell.type(x, "ox");
+        Check.same("the next word", x.item(0, 0, 1), 6);
+
+        Doc.promise(5, "- `owner`: an owner, or NONE for nobody known");
+        Check.same("the first owner", x.about(Tell.item(x, Tell.BOX, 1, 0, 1), 3), 2);
+        Check.same("the last owner", x.about(Tell.item(x, Tell.BOX, 1, 1, 1), 3), 3);
+        Check.same("nobody known", x.about(Tell.item(x, Tell.BOX, 1, -1, 1), 3), 1);
+        x.death(1);
+        Check.same("an owner who is dead", x.about(Tell.item(x, Tell.BOX, 1, 1, 1), 3), 3);
+
+        Doc.promise(5, "- `amount`: 1 to 10000");
+        for (int amount : new int[] {1, 2, 9999, 10000}) {
+            Check.same("amount", x.about(Tell.item(x, Tell.BOX, 0, 0, amount), 1), amount);
+        }
+
+        Doc.promise(5, "Returns its number; NONE if the word is no kind.");
+        Escheatry y = Tell.place();
+        Check.same("without a word", y.item(0, 0, 1), Escheatry.NONE);
+        for (int number = 0; number < 24; number++) {
+            Check.same("number", Tell.item(y, number % 6, 0, 0, 1), number);
+            if (number < 23) {
+                Tell.type(y, "x");
+                Check.same("no kind", y.item(0, 0, 1), Escheatry.NONE);
             }
         }
-        Check.same("5 least", Check.tell(x, Check.CARD, 0, -1, 1), 6);
-        Check.same("5 most", Check.tell(x, Check.CARD, 0, -1, 10000), 7);
-        Check.same("5 its amount", x.about(7, 1), 10000);
-        Check.same("5 nobody's", x.about(7, 3), 3);
-        x.death(0);
-        Check.same("5 of a dead one", Check.tell(x, Check.CARD, 0, 0, 1), 8);
-        Check.same("5 state of that", x.about(8, 3), 1);
-    }
-
-    private static void itemOfNoKind() {
-        Escheatry x = new Escheatry();
-        x.holder(0);
-        String[] none = {"", "accoun", "account".substring(1), "cheques", "shar", "boxx", "wages", "cart", "drac", "abcdefg"};
-        for (String word : none) {
-            Check.type(x, word);
-            Check.same("5 " + word, x.item(0, -1, 5), -1);
-        }
-        Check.same("5 none told", Check.items(x), 0);
-        Check.same("5 nothing typed then", x.letter('b'), 1);
-        Check.type(x, "ox");
-        Check.same("5 box", x.item(0, -1, 5), 0);
-        Check.same("5 nothing typed then", x.item(0, -1, 5), -1);
     }
 
     private static void itemRefused() {
-        Escheatry x = new Escheatry();
-        Check.type(x, "box");
-        Check.refused("5 no holder", Check.INDEX, x, () -> x.item(0, -1, 1));
-        x.holder(0);
-        x.holder(1);
-        x.owner(0);
-        for (int none : new int[] {-1, 2, MIN, MAX}) {
-            Check.refused("5 holder " + none, Check.INDEX, x, () -> x.item(none, 0, 1));
-            Check.refused("5 holder ahead of amount", Check.INDEX, x, () -> x.item(none, 0, 0));
+        Doc.promise(5, "Throws `IndexOutOfBoundsException` as told, of the holder or the owner");
+        for (int none : Check.outside(0, 2)) {
+            Check.refused("holder " + none, Check.INDEX, SOME, x -> x.item(none, 0, 1));
         }
-        for (int none : new int[] {-2, 1, MIN, MAX}) {
-            Check.refused("5 owner " + none, Check.INDEX, x, () -> x.item(0, none, 1));
-            Check.refused("5 owner ahead of amount", Check.INDEX, x, () -> x.item(0, none, 10001));
+        for (int none : Check.outside(-1, 2)) {
+            Check.refused("owner " + none, Check.INDEX, SOME, x -> x.item(0, none, 1));
         }
-        x.merge(1, 0);
-        for (int none : new int[] {0, -1, 10001, MIN, MAX}) {
-            Check.refused("5 amount " + none, Check.ARGUMENT, x, () -> x.item(0, 0, none));
-            Check.refused("5 amount ahead of merged", Check.ARGUMENT, x, () -> x.item(1, 0, none));
+        Check.refused("also if the word is no kind", Check.INDEX, SOME.then(x -> x.letter('x')), x -> x.item(3, 0, 1));
+
+        Doc.promise(5, "Throws `IllegalArgumentException` if amount is out of range");
+        for (int none : new int[] {0, -1, 10001, Integer.MIN_VALUE, Integer.MAX_VALUE, 65537}) {
+            Check.refused("amount " + none, Check.ARGUMENT, SOME, x -> x.item(0, 0, none));
         }
-        Check.refused("5 merged", Check.STATE, x, () -> x.item(1, 0, 1));
-        Check.same("5 the word is typed still", x.item(0, 0, 1), 0);
-        for (int number = 1; number < 24; number++) {
-            Check.same("5 number", Check.tell(x, number % 6, 0, -1, number), number);
-        }
-        Check.refused("5 the 25th, no word", Check.STATE, x, () -> x.item(0, 0, 1));
-        Check.type(x, "card");
-        Check.refused("5 the 25th", Check.STATE, x, () -> x.item(0, 0, 1));
-        Check.same("5 the word is typed still", x.letter('s'), 5);
-        Check.refused("5 the 25th, amount", Check.ARGUMENT, x, () -> x.item(0, 0, 0));
-        Check.refused("5 the 25th, holder", Check.INDEX, x, () -> x.item(2, 0, 0));
-        Check.same("5 items", Check.items(x), 24);
+        Check.refused("also if the word is no kind", Check.ARGUMENT, SOME.then(x -> x.letter('x')), x -> x.item(0, 0, 0));
+
+        Doc.promise(5, "Throws `IllegalStateException` if there are 24, or the holder has merged into another one");
+        Check.Story full = Tell.PLACE.then(x -> Tell.items(x, 24, Tell.BOX, 0, 0, 1));
+        Check.refused("the 25th", Check.STATE, full.then(x -> Tell.type(x, "card")), x -> x.item(1, 0, 1));
+        Check.refused("the 25th, without a word", Check.STATE, full, x -> x.item(1, 0, 1));
+        Check.refused("the 25th, some are PAID", Check.STATE, full.then(x -> {
+            x.pass(20);
+            x.claim(0, 0, false);
+            Tell.type(x, "box");
+        }), x -> x.item(1, 0, 1));
+        Check.refused("merged", Check.STATE, SOME, x -> x.item(2, 0, 1));
+        Check.refused("merged, no kind", Check.STATE, SOME.then(x -> x.letter('x')), x -> x.item(2, 0, 1));
+        Check.same("the word is typed still", Check.after(SOME.then(x -> Check.thrownBy(() -> x.item(2, 0, 1)))).item(0, 0, 1), 0);
+        Check.same("the one into which it merged", Check.after(SOME).item(0, 0, 1), 0);
     }
 
-    private static void laws() {
-        Escheatry x = new Escheatry();
-        x.holder(0);
-        x.owner(2);
-        int early = Check.tell(x, Check.BOX, 0, 0, 100);
-        Check.same("6 first", x.law(2, Check.BOX, 20), 6);
-        Check.same("6 counts from its year on", x.due(early), 20);
-        Check.same("6 of one year the last one", x.law(2, Check.BOX, 0), 20);
-        Check.same("6 due at once", x.due(early), 0);
-        Check.same("6 again", x.law(2, Check.BOX, 9), 0);
-        x.pass(3);
-        int late = Check.tell(x, Check.BOX, 0, 0, 100);
-        Check.same("6 still the one of year 0", x.due(late), 12);
-        Check.same("6 another one", x.law(2, Check.BOX, 4), 9);
-        Check.same("6 not for what was touched ahead", x.due(early), 9);
-        Check.same("6 for what was touched in its year", x.due(late), 7);
+    private static void law() {
+        Doc.promise(6, "Tells a law from this year on.");
+        Escheatry x = Tell.place();
+        Tell.item(x, Tell.BOX, 0, 0, 100);
         x.pass(1);
-        Check.same("6 a later one", x.law(2, Check.BOX, 1), 4);
-        Check.same("6 not for the middle one", x.due(late), 7);
-        Check.same("6 nor for the early one", x.due(early), 9);
-        Check.same("6 other states", x.law(1, Check.BOX, 2), 6);
-        Check.same("6 other kinds", x.law(2, Check.CARD, 3), 2);
-        Check.same("6 nor for these", x.due(late), 7);
-        int newest = Check.tell(x, Check.BOX, 0, 0, 100);
-        Check.same("6 newest", x.due(newest), 5);
-        int nobodys = Check.tell(x, Check.BOX, 0, -1, 100);
-        Check.same("6 nobody's, by the home", x.due(nobodys), 10);
-        x.law(0, Check.BOX, 11);
-        Check.same("6 nobody's, by the law of the home", x.due(nobodys), 15);
-    }
+        Tell.item(x, Tell.BOX, 0, 0, 100);
+        x.law(2, Tell.BOX, 11);
+        x.pass(1);
+        Tell.item(x, Tell.BOX, 0, 0, 100);
+        Check.same("not in the year ahead", x.due(0), 6);
+        Check.same("in this year", x.due(1), 12);
+        Check.same("in the next one", x.due(2), 13);
 
-    private static void lawRefused() {
-        Escheatry x = new Escheatry();
-        for (int none : new int[] {-1, 5, MIN, MAX}) {
-            Check.refused("6 state", Check.INDEX, x, () -> x.law(none, 0, 1));
-            Check.refused("6 state ahead of years", Check.INDEX, x, () -> x.law(none, 0, 21));
+        Doc.promise(6, "- `years`: 0 to 20");
+        for (int years : new int[] {0, 1, 19, 20}) {
+            x.law(2, Tell.BOX, years);
+            Check.same("years", x.due(2), 2 + years);
         }
-        for (int none : new int[] {-1, 6, MIN, MAX}) {
-            Check.refused("6 kind", Check.INDEX, x, () -> x.law(0, none, 1));
-            Check.refused("6 kind ahead of years", Check.INDEX, x, () -> x.law(0, none, -1));
+
+        Doc.promise(6, "Returns how many years the kind slept there by the one before.");
+        for (int s = 0; s < 5; s++) {
+            for (int k = 0; k < 6; k++) {
+                Escheatry y = new Escheatry();
+                Check.same("the first", y.law(s, k, 20), Tell.FIRST_SLEEPS[k]);
+                Check.same("of the same year", y.law(s, k, 0), 20);
+                y.pass(1);
+                Check.same("of the year ahead", y.law(s, k, 7), 0);
+                y.pass(20);
+                Check.same("of long ago", y.law(s, k, 7), 7);
+                Check.same("in another state", y.law((s + 1) % 5, k, 1), Tell.FIRST_SLEEPS[k]);
+                Check.same("another kind", y.law(s, (k + 1) % 6, 1), Tell.FIRST_SLEEPS[(k + 1) % 6]);
+            }
         }
-        for (int none : new int[] {-1, 21, MIN, MAX}) {
-            Check.refused("6 years", Check.ARGUMENT, x, () -> x.law(4, 5, none));
+
+        Doc.promise(6, "Throws `IndexOutOfBoundsException` as told, of the state or the kind");
+        for (int none : Check.outside(0, 4)) {
+            Check.refused("state " + none, Check.INDEX, SOME, z -> z.law(none, 0, 1));
         }
-        Check.same("6 refused laws are none", x.law(4, 5, 0), 2);
-        Check.same("6 least", x.law(4, 5, 20), 0);
-        Check.same("6 most", x.law(4, 5, 1), 20);
+        for (int none : Check.outside(0, 5)) {
+            Check.refused("kind " + none, Check.INDEX, SOME, z -> z.law(0, none, 1));
+        }
+        Check.refused("a kind that would reach into the next state", Check.INDEX, SOME, z -> z.law(0, 11, 1));
+        Check.refused("a kind that would reach into the state before", Check.INDEX, SOME, z -> z.law(1, -6, 1));
+
+        Doc.promise(6, "Throws `IllegalArgumentException` if years is out of range");
+        for (int none : Check.outside(0, 20)) {
+            Check.refused("years " + none, Check.ARGUMENT, SOME, z -> z.law(4, 5, none));
+        }
     }
 
     private static void move() {
-        Escheatry x = new Escheatry();
-        x.holder(0);
-        x.owner(1);
-        x.owner(4);
-        int early = Check.tell(x, Check.BOX, 0, 0, 100);
-        Check.same("7 before", x.move(0, 2), 1);
-        Check.same("7 of several in a year the last one", x.about(early, 3), 2);
-        Check.same("7 before", x.move(0, 3), 2);
-        Check.same("7 the last one", x.about(early, 3), 3);
-        x.pass(2);
-        Check.same("7 before", x.move(0, 0), 3);
-        Check.same("7 not for what was touched ahead", x.about(early, 3), 3);
-        int late = Check.tell(x, Check.BOX, 0, 0, 100);
-        Check.same("7 where it is now", x.about(late, 3), 0);
-        x.pass(1);
-        Check.same("7 to the same", x.move(0, 0), 0);
-        Check.same("7 away", x.move(0, 4), 0);
-        Check.same("7 the late one stays", x.about(late, 3), 0);
-        Check.same("7 touch", x.contact(0, 0), 2);
-        Check.same("7 touched there", x.about(early, 3), 4);
-        Check.same("7 touched there", x.about(late, 3), 4);
-        Check.same("7 the other one", x.move(1, 0), 4);
-    }
+        Doc.promise(7, "Lets an owner move.");
+        Escheatry x = Tell.place();
+        x.move(0, 4);
+        Check.same("moved", x.about(Tell.item(x, Tell.BOX, 0, 0, 1), 3), 4);
+        Check.same("the other one has not", x.about(Tell.item(x, Tell.BOX, 0, 1, 1), 3), 3);
 
-    private static void moveRefused() {
-        Escheatry x = new Escheatry();
-        Check.refused("7 none", Check.INDEX, x, () -> x.move(0, 0));
-        x.owner(1);
-        for (int none : new int[] {-1, 1, MIN, MAX}) {
-            Check.refused("7 owner", Check.INDEX, x, () -> x.move(none, 0));
+        Doc.promise(7, "Returns the state before.");
+        Check.same("in the same year", x.move(0, 0), 4);
+        Check.same("to where one is", x.move(0, 0), 0);
+        x.pass(3);
+        Check.same("in a later year", x.move(0, 1), 0);
+        Check.same("that of the other one", x.move(1, 1), 3);
+        Tell.until(x, 400);
+        Check.same("in the last year", x.move(0, 2), 1);
+
+        Doc.promise(7, "Throws `IndexOutOfBoundsException` as told, of the owner or the state");
+        for (int none : Check.outside(0, 2)) {
+            Check.refused("owner " + none, Check.INDEX, SOME, y -> y.move(none, 0));
         }
-        for (int none : new int[] {-1, 5, MIN, MAX}) {
-            Check.refused("7 state", Check.INDEX, x, () -> x.move(0, none));
+        for (int none : Check.outside(0, 4)) {
+            Check.refused("state " + none, Check.INDEX, SOME, y -> y.move(0, none));
         }
-        Check.same("7 refused moves are none", x.move(0, 2), 1);
-        x.death(0);
-        Check.refused("7 dead", Check.STATE, x, () -> x.move(0, 0));
-        Check.refused("7 dead, state", Check.INDEX, x, () -> x.move(0, 5));
-        x.holder(0);
-        Check.tell(x, Check.CARD, 0, 0, 1);
-        Check.same("7 a dead one stays", x.about(0, 3), 2);
+
+        Doc.promise(7, "Throws `IllegalStateException` if the owner is dead");
+        Check.refused("dead", Check.STATE, SOME, y -> y.move(2, 0));
+        Check.refused("dead, to where one is", Check.STATE, SOME, y -> y.move(2, 4));
+        Check.same("one who lives", Check.after(SOME).move(1, 0), 3);
     }
 
     private static void death() {
-        Escheatry x = new Escheatry();
-        Check.refused("8 none", Check.INDEX, x, () -> x.death(0));
-        x.owner(1);
-        x.owner(2);
-        for (int none : new int[] {-1, 2, MIN, MAX}) {
-            Check.refused("8 owner", Check.INDEX, x, () -> x.death(none));
-        }
-        x.death(1);
-        Check.same("8 the other one lives", x.move(0, 3), 1);
-        Check.refused("8 dead", Check.STATE, x, () -> x.death(1));
-        Check.refused("8 dead ones don't move", Check.STATE, x, () -> x.move(1, 3));
+        Doc.promise(8, "Tells that an owner is dead.");
+        Escheatry x = Tell.place();
+        Tell.item(x, Tell.WAGE, 0, 0, 9);
+        x.heir(0, 1);
         x.death(0);
-        Check.refused("8 dead too", Check.STATE, x, () -> x.death(0));
+        x.pass(1);
+        Check.same("an heir can claim", x.claim(1, 0, false), 9);
+        Check.same("another one lives", x.move(1, 4), 3);
+
+        Doc.promise(8, "Throws `IndexOutOfBoundsException` as told");
+        for (int none : Check.outside(0, 2)) {
+            Check.refused("owner " + none, Check.INDEX, SOME, y -> y.death(none));
+        }
+
+        Doc.promise(8, "Throws `IllegalStateException` if the owner is dead");
+        Check.refused("dead", Check.STATE, SOME, y -> y.death(2));
+        Check.refused("dead for years", Check.STATE, SOME.then(y -> y.pass(20)), y -> y.death(2));
+        Check.refused("all of them", Check.STATE, SOME.then(y -> {
+            y.death(0);
+            y.death(1);
+        }), y -> y.death(0));
     }
 
     private static void heir() {
-        Escheatry x = new Escheatry();
-        for (int number = 0; number < 8; number++) {
-            x.owner(0);
-        }
-        for (int number = 1; number < 8; number++) {
-            Check.same("9 new", x.heir(0, number), true);
-            Check.same("9 not new", x.heir(0, number), false);
-        }
-        Check.same("9 the other way", x.heir(7, 0), true);
+        Doc.promise(9, "Tells that an owner is an heir of another one.");
+        Escheatry x = Tell.place();
+        Tell.items(x, 2, Tell.WAGE, 0, 0, 9);
+        x.heir(0, 1);
+        x.pass(1);
         x.death(0);
-        x.death(1);
-        Check.same("9 of a dead one", x.heir(1, 2), true);
-        Check.same("9 a dead one", x.heir(2, 1), true);
-        for (int none : new int[] {-1, 8, 32, MIN, MAX}) {
-            Check.refused("9 owner", Check.INDEX, x, () -> x.heir(none, 0));
-            Check.refused("9 heir", Check.INDEX, x, () -> x.heir(0, none));
-            Check.refused("9 both", Check.INDEX, x, () -> x.heir(none, none));
+        Check.same("can claim", x.claim(1, 0, false), 9);
+        x.heir(0, 1);
+        Check.same("told again, an heir still", x.claim(1, 1, false), 9);
+
+        Doc.promise(9, "Returns whether it was not so.");
+        Check.Story all = y -> {
+            for (int owner = 0; owner < 8; owner++) {
+                y.owner(0);
+            }
+        };
+        Escheatry y = Check.after(all);
+        for (int owner = 0; owner < 8; owner++) {
+            for (int heir = 0; heir < 8; heir++) {
+                if (owner != heir) {
+                    Check.same(heir + " of " + owner, y.heir(owner, heir), true);
+                    Check.same(heir + " of " + owner + " again", y.heir(owner, heir), false);
+                }
+            }
         }
-        Check.refused("9 the same", Check.ARGUMENT, x, () -> x.heir(3, 3));
+        Escheatry dead = Check.after(SOME);
+        Check.same("of a dead one", dead.heir(2, 0), true);
+        Check.same("a dead one", dead.heir(0, 2), true);
+        Check.same("a dead one again", dead.heir(0, 2), false);
+
+        Doc.promise(9, "Throws `IndexOutOfBoundsException` as told, of both");
+        for (int none : Check.outside(0, 7)) {
+            Check.refused("owner " + none, Check.INDEX, all, z -> z.heir(none, 0));
+            Check.refused("heir " + none, Check.INDEX, all, z -> z.heir(0, none));
+        }
+        for (int none : new int[] {8, 31, 32, 33, 40, 64}) {
+            Check.refused("heir " + none + " of 8", Check.INDEX, all, z -> z.heir(0, none));
+        }
+
+        Doc.promise(9, "Throws `IllegalArgumentException` if both are the same");
+        for (int owner = 0; owner < 8; owner++) {
+            int same = owner;
+            Check.refused("of oneself, " + owner, Check.ARGUMENT, all, z -> z.heir(same, same));
+        }
+        Check.refused("a dead one of oneself", Check.ARGUMENT, SOME, z -> z.heir(2, 2));
     }
 }
