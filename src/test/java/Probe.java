@@ -3,7 +3,7 @@ import java.util.concurrent.Callable;
 /** All that can be found out about an object. What asks by changing things has a new object each time. */
 final class Probe {
     private static final int STATES = 5, KINDS = 6, HOLDERS = 6, OWNERS = 8, ITEMS = 24;
-    private static final int WAYS = 11;
+    private static final int WAYS = 12;
 
     private final Escheatry x;
     private final StringBuilder told = new StringBuilder();
@@ -34,6 +34,7 @@ final class Probe {
             case 7: claims(); break;
             case 8: nextYear(); break;
             case 9: contactsAndSplits(); break;
+            case 10: itemsOfOwners(); break;
             default: lettersAndMergers(); break;
         }
     }
@@ -83,8 +84,9 @@ final class Probe {
         for (int h = 0; h < HOLDERS; h++) {
             int holder = h;
             String number = tell("item at " + h, () -> x.item(holder, Escheatry.NONE, 7));
-            if (number.equals("-1") || number.length() < 3) {
-                tell("due", () -> x.due(Integer.parseInt(number)));
+            if (!number.endsWith("Exception")) {
+                int item = Integer.parseInt(number);
+                tell("due", () -> x.due(item));
             }
         }
     }
@@ -149,6 +151,29 @@ final class Probe {
                 tell("contact " + o + ' ' + h, () -> x.contact(owner, holder));
             }
             tell("split " + h, () -> x.split(holder));
+        }
+    }
+
+    /** Where a new item of each owner is: that alone tells the address of a dead one. */
+    private void itemsOfOwners() {
+        itemOf(Escheatry.NONE);
+        for (int o = 0; o < OWNERS; o++) {
+            for (char letter : "box".toCharArray()) {
+                Check.thrownBy(() -> x.letter(letter));
+            }
+            itemOf(o);
+        }
+    }
+
+    private void itemOf(int owner) {
+        String number = "Exception";
+        for (int h = 0; h < HOLDERS && number.endsWith("Exception"); h++) {
+            int holder = h;
+            number = tell("item of " + owner + " at " + h, () -> x.item(holder, owner, 1));
+        }
+        if (!number.endsWith("Exception")) {
+            int item = Integer.parseInt(number);
+            tell("its state", () -> x.about(item, 3));
         }
     }
 

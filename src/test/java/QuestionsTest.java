@@ -154,8 +154,16 @@ public final class QuestionsTest {
         for (int item = 0; item < 4; item++) {
             Check.same("anew " + item, x.dueAnew(item), want[item]);
         }
-        x.merge(1, 2);
-        Check.same("PAID, at another holder", x.dueAnew(3), 2);
+        for (boolean merged : new boolean[] {false, true}) {
+            Escheatry y = Tell.place();
+            y.law(1, Tell.CARD, 9);
+            Tell.item(y, Tell.CARD, 0, Tell.NONE, 30);
+            y.pass(2);
+            if (merged) {
+                y.merge(0, 1);
+            }
+            Check.same("PAID, by the law of the state that got it", y.dueAnew(0), 2);
+        }
 
         Doc.promise(20, "Throws `IndexOutOfBoundsException` as told");
         for (int none : Check.outside(0, 3)) {

@@ -287,6 +287,17 @@ public final class TermsLettersTest {
         });
         Check.same("half of the nearest above", Check.after(half).about(1, 1), 500032);
         Check.refused("the nearest above", Check.STATE, half, x -> x.split(0));
+        for (int large : new int[] {0, 11, 23}) {
+            Check.Story full = Tell.PLACE.then(x -> {
+                for (int item = 0; item < 24; item++) {
+                    Tell.item(x, Tell.SHARE, 0, 0, item == large ? 7813 : 1);
+                }
+                for (int split = 0; split < 6; split++) {
+                    x.split(0);
+                }
+            });
+            Check.refused("item " + large + " alone", Check.STATE, full, x -> x.split(0));
+        }
         Check.same("another holder's are none of it", Check.after(half).split(1), 0);
         Escheatry other = Check.after(half);
         Tell.item(other, Tell.BOX, 1, 0, 10000);

@@ -336,6 +336,7 @@ public final class TermsPropertyTest {
         Check.same("PAID, at a holder with another home", x.about(0, 4), 3);
         Check.same("PAID, state", x.about(0, 3), 4);
         Check.same("PAID, due", x.due(0), 3);
+        Check.same("PAID, due anew", x.dueAnew(0), 3);
     }
 
     private static void dueInTheYear() {
