@@ -29,6 +29,18 @@ final class Check {
     private Check() {
     }
 
+    /** Runs each test; one that throws is wrong, and the others run still. */
+    static void run(Runnable... tests) {
+        for (Runnable test : tests) {
+            try {
+                test.run();
+            } catch (RuntimeException e) {
+                StackTraceElement[] trace = e.getStackTrace();
+                fail("threw " + e + (trace.length > 1 ? " in " + trace[0] + " of " + trace[1] : ""));
+            }
+        }
+    }
+
     /** What is checked from now on is due by this sentence. */
     static void begin(String next) {
         leave();
@@ -95,7 +107,7 @@ final class Check {
 
     static void end(String test) {
         leave();
-        System.out.println(test + ": " + sentences + " sentences, " + checked + " checks, " + wrong + " wrong");
+        System.out.println(test + ": " + (sentences > 0 ? sentences + " sentences, " : "") + checked + " checks, " + wrong + " wrong");
         if (wrong != 0 || checked == 0) {
             System.exit(1);
         }

@@ -16,9 +16,7 @@ public final class ClaimsTest {
     });
 
     public static void main(String[] args) {
-        claim();
-        claimRefused();
-        audit();
+        Check.run(ClaimsTest::claim, ClaimsTest::claimRefused, ClaimsTest::audit);
         for (int number = 15; number <= 16; number++) {
             Doc.quotedWhole("Promise " + number);
         }

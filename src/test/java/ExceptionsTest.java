@@ -22,13 +22,9 @@ public final class ExceptionsTest {
     });
 
     public static void main(String[] args) {
-        noSuch();
-        outOfRange();
-        asTheMethodTells();
-        firstNamedIsThrown();
-        changesNothing();
-        none();
-        howItemsAre();
+        Check.run(ExceptionsTest::noSuch, ExceptionsTest::outOfRange, ExceptionsTest::asTheMethodTells,
+            ExceptionsTest::firstNamedIsThrown, ExceptionsTest::changesNothing, ExceptionsTest::none,
+            ExceptionsTest::howItemsAre);
         Doc.promisesNothing("Exceptions", "The constants:");
         for (String calls : new String[] {"`letter`, `holder`, `owner`, `item`, `law`, `move`, `death`, `heir` the interface says: ---- holders, owners, items.",
             "`contact`, `send`, `split`, `merge`, `pass` the interface says: ---- contacts, letters, years.",

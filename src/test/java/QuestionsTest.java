@@ -19,15 +19,9 @@ public final class QuestionsTest {
     });
 
     public static void main(String[] args) {
-        year();
-        about();
-        aboutRefused();
-        due();
-        dueAnew();
-        purses();
-        pursesRefused();
-        fined();
-        finders();
+        Check.run(QuestionsTest::year, QuestionsTest::about, QuestionsTest::aboutRefused, QuestionsTest::due,
+            QuestionsTest::dueAnew, QuestionsTest::purses, QuestionsTest::pursesRefused, QuestionsTest::fined,
+            QuestionsTest::finders);
         for (int number = 17; number <= 24; number++) {
             Doc.quotedWhole("Promise " + number);
         }

@@ -10,16 +10,9 @@ public final class TellingTest {
     });
 
     public static void main(String[] args) {
-        newObject();
-        letter();
-        holder();
-        owner();
-        item();
-        itemRefused();
-        law();
-        move();
-        death();
-        heir();
+        Check.run(TellingTest::newObject, TellingTest::letter, TellingTest::holder, TellingTest::owner,
+            TellingTest::item, TellingTest::itemRefused, TellingTest::law, TellingTest::move, TellingTest::death,
+            TellingTest::heir);
         for (int number = 1; number <= 9; number++) {
             Doc.quotedWhole("Promise " + number);
         }

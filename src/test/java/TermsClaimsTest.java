@@ -1,17 +1,11 @@
 /** Terms, 'Claims, audits'. */
 public final class TermsClaimsTest {
     public static void main(String[] args) {
-        claimedEver();
-        claimedByAnHeirWhoLives();
-        claimedThen();
-        purseOfTheStatePays();
-        finderGetsATenth();
-        heirsOneByOne();
-        heirOfAnHeir();
-        auditLooksAtEachSoMany();
-        auditFindsWhatIsLate();
-        auditTimesAndDivided();
-        auditWithoutAny();
+        Check.run(TermsClaimsTest::claimedEver, TermsClaimsTest::claimedByAnHeirWhoLives, TermsClaimsTest::claimedThen,
+            TermsClaimsTest::purseOfTheStatePays, TermsClaimsTest::finderGetsATenth, TermsClaimsTest::heirsOneByOne,
+            TermsClaimsTest::heirOfAnHeir, TermsClaimsTest::auditLooksAtEachSoMany,
+            TermsClaimsTest::auditFindsWhatIsLate, TermsClaimsTest::auditTimesAndDivided,
+            TermsClaimsTest::auditWithoutAny);
         Doc.quotedWhole("Claims, audits");
         Check.end("TermsClaimsTest");
     }

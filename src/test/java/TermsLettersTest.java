@@ -15,17 +15,10 @@ public final class TermsLettersTest {
     });
 
     public static void main(String[] args) {
-        contactTouches();
-        letterCosts2();
-        whenAYearBegins();
-        amountBelow50();
-        letterOfTheYearAhead();
-        paidLessTheLetters();
-        neverTouchedAgain();
-        finedOtherwise();
-        sharesWorthTwice();
-        noneAbove1000000();
-        mergedHasNoItems();
+        Check.run(TermsLettersTest::contactTouches, TermsLettersTest::letterCosts2, TermsLettersTest::whenAYearBegins,
+            TermsLettersTest::amountBelow50, TermsLettersTest::letterOfTheYearAhead,
+            TermsLettersTest::paidLessTheLetters, TermsLettersTest::neverTouchedAgain, TermsLettersTest::finedOtherwise,
+            TermsLettersTest::sharesWorthTwice, TermsLettersTest::noneAbove1000000, TermsLettersTest::mergedHasNoItems);
         Doc.quotedWhole("Contacts, letters");
         Check.end("TermsLettersTest");
     }

@@ -1,24 +1,14 @@
 /** Terms, 'Property, laws': years, states, kinds, laws, holders, owners, items. */
 public final class TermsPropertyTest {
     public static void main(String[] args) {
-        calls512();
-        yearsAreCountedFrom0();
-        states0To4();
-        kindsAreToldByWords();
-        kindsAreNumbered();
-        kindsSleepAtFirst();
-        lawFromNowOn();
-        lawForItsYearOrLater();
-        lawUntilAnotherOne();
-        lawToldLastOfAYear();
-        holdersAtMost6();
-        ownersAtMost8();
-        addressOfEachYear();
-        itemsAtMost24();
-        whatAnItemHas();
-        stateOfAnOwnersItem();
-        stateOfNobodysItem();
-        dueInTheYear();
+        Check.run(TermsPropertyTest::calls512, TermsPropertyTest::yearsAreCountedFrom0, TermsPropertyTest::states0To4,
+            TermsPropertyTest::kindsAreToldByWords, TermsPropertyTest::kindsAreNumbered,
+            TermsPropertyTest::kindsSleepAtFirst, TermsPropertyTest::lawFromNowOn,
+            TermsPropertyTest::lawForItsYearOrLater, TermsPropertyTest::lawUntilAnotherOne,
+            TermsPropertyTest::lawToldLastOfAYear, TermsPropertyTest::holdersAtMost6, TermsPropertyTest::ownersAtMost8,
+            TermsPropertyTest::addressOfEachYear, TermsPropertyTest::itemsAtMost24, TermsPropertyTest::whatAnItemHas,
+            TermsPropertyTest::stateOfAnOwnersItem, TermsPropertyTest::stateOfNobodysItem,
+            TermsPropertyTest::dueInTheYear);
         Doc.quotedWhole("Property, laws");
         Check.end("TermsPropertyTest");
     }

@@ -15,13 +15,8 @@ public final class YearsTest {
     });
 
     public static void main(String[] args) {
-        contact();
-        send();
-        split();
-        merge();
-        mergeRefused();
-        pass();
-        passRefused();
+        Check.run(YearsTest::contact, YearsTest::send, YearsTest::split, YearsTest::merge, YearsTest::mergeRefused,
+            YearsTest::pass, YearsTest::passRefused);
         for (int number = 10; number <= 14; number++) {
             Doc.quotedWhole("Promise " + number);
         }
