@@ -90,7 +90,7 @@ final class Model {
         return ownerOf[item];
     }
 
-    /** Asks the call of this number (see ModelTest.CALLS) with up to three arguments. */
+    /** Asks the call of this number (ModelTest.act and ModelTest.question tell which) with up to three arguments. */
     String call(int call, int a, int b, int c) {
         switch (call) {
             case 0: return letter(a);
